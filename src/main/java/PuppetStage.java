@@ -15,6 +15,7 @@ public final class PuppetStage {
     private static final int REACH_TILTS = 4, REACH_RESTS = 60;
     private static final int STRING = 0, RUN = 1, PLUCK = 2, ROD = 3, GROUND = 4;
     private static final int GRAINS = 1024, TAUT_WITHIN = 512, ROD_GIVES = 1024;
+    private static final long BEYOND_ALL = 1000000000000000000L;
 
     /** SIN of every direction, so that no fold of a quarter round is needed where puppets rest. */
     private static final int[] SINES = {
@@ -447,7 +448,7 @@ public final class PuppetStage {
         int from = Math.max(LEAST_STEP, p.cross.tilt - REACH_TILTS);
         int to = Math.min(GREATEST_STEP, p.cross.tilt + REACH_TILTS);
         int bestTilt = from;
-        long best = Long.MAX_VALUE;
+        long best = BEYOND_ALL;
         for (int tilt = from; tilt <= to; tilt++) {
             copyRow(bendsBefore, p.limbs.bend);
             p.cross.tilt = tilt;
@@ -924,13 +925,15 @@ public final class PuppetStage {
     /** Where limbs and bars are, in grains, and the excess and depth that another way to lie must beat. */
     private static final class Figure {
         final int[] direction = new int[MOST_LIMBS];
+        final int[] stepX = new int[MOST_LIMBS];
+        final int[] stepY = new int[MOST_LIMBS];
         final int[] startX = new int[MOST_LIMBS];
         final int[] startY = new int[MOST_LIMBS];
         final int[] endX = new int[MOST_LIMBS];
         final int[] endY = new int[MOST_LIMBS];
         final int[] barX = new int[MOST_BARS];
         final int[] barY = new int[MOST_BARS];
-        private long excess = Long.MAX_VALUE;
+        private long excess = BEYOND_ALL;
         private long depth = 0;
 
         void lay(Puppet p) {
@@ -952,6 +955,8 @@ public final class PuppetStage {
                 int parent = limbs.parent[k];
                 boolean onLimb = parent >= 0 && parent < k;
                 direction[k] = ((onLimb ? direction[parent] : 0) + limbs.bend[k]) & LAST_DIRECTION;
+                stepX[k] = sine(direction[k]);
+                stepY[k] = -cosine(direction[k]);
                 startX[k] = onLimb ? endX[parent] : GRAINS * limbs.pinX;
                 startY[k] = onLimb ? endY[parent] : GRAINS * limbs.pinY;
                 endX[k] = spotX(k, limbs.length[k]);
@@ -960,11 +965,11 @@ public final class PuppetStage {
         }
 
         int spotX(int limb, int spot) {
-            return startX[limb] + spot * sine(direction[limb]);
+            return startX[limb] + spot * stepX[limb];
         }
 
         int spotY(int limb, int spot) {
-            return startY[limb] - spot * cosine(direction[limb]);
+            return startY[limb] + spot * stepY[limb];
         }
 
         long far(Holds holds, int hold) {
@@ -1003,7 +1008,7 @@ public final class PuppetStage {
         /** From here on the next way to lie counts as better, whatever it is. */
         void begin(Cross cross) {
             layBars(cross);
-            excess = Long.MAX_VALUE;
+            excess = BEYOND_ALL;
         }
 
         /** Whether the puppet lies better now than the best since begin(); if so, this is the best. */

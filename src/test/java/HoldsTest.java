@@ -8,6 +8,7 @@ public final class HoldsTest {
         drop();
         pluck();
         farOfString();
+        tautJust();
         roots();
         run();
         plucked();
@@ -88,6 +89,9 @@ public final class HoldsTest {
         due("drop the pluck", x.drop(0, 0), 2);
         due("drop the rod", x.drop(0, 0), 3);
         due("drop none", x.drop(0, 0), BAD);
+        due("a pluck", x.hold(0, 20, 0, 1, 30), 0);
+        due("plucked", x.pluck(0, 0, 8), 0);
+        due("dropped", x.drop(0, 0), 2);
         due("a new pluck", x.hold(0, 20, 0, 1, 30), 0);
         due("has nothing taken", x.holds(0, 0, 5), 0);
     }
@@ -130,6 +134,30 @@ public final class HoldsTest {
         due("slack", x.holds(0, 2, 8), 0);
     }
 
+    /** The end is 12800 grains to the right of the bar, which is 13 units less 512 grains. */
+    private static void tautJust() {
+        PuppetStage x = withLimb(32);
+        x.limb(0, 0, 32, 1);
+        x.bend(0, 0, 2);
+        x.bend(0, 1, 28);
+        x.cross(0, 0, 0, 0);
+        x.hold(0, 0, 1, 32, 13);
+        x.hold(0, 0, 1, 32, 14);
+        x.hold(0, 20, 1, 32, 14);
+        due("far", x.holds(0, 0, 6), 12800);
+        due("just taut", x.holds(0, 0, 8), 1);
+        due("slack", x.holds(0, 1, 8), 0);
+        due("slack pluck", x.holds(0, 2, 8), 0);
+        x.pluck(0, 2, 1);
+        due("just taut pluck", x.holds(0, 2, 8), 1);
+        due("taut ones", x.lies(0, 3), 2);
+        x.bar(0, 0, 0, 0);
+        x.pin(0, 1, 0);
+        due("far", x.holds(0, 0, 6), 13824);
+        x.pin(0, -1, 0);
+        due("not taut any more", x.lies(0, 3), 0);
+    }
+
     /** Distances that no whole number measures are rounded up. */
     private static void roots() {
         PuppetStage x = withLimb(2);
@@ -140,9 +168,12 @@ public final class HoldsTest {
         due("at y", x.at(0, 0, 1, 1), -1019);
         due("root of 1048361 is 1023.9", x.holds(0, 0, 6), 1024);
         due("not too long", x.holds(0, 0, 7), 0);
+        due("lawful", x.why(0), NONE);
         x.bend(0, 0, 4);
         due("root of 1048580 is 1024.002", x.holds(0, 0, 6), 1025);
         due("too long by a grain", x.holds(0, 0, 7), 1);
+        due("that is why", x.why(0), 0);
+        due("one too long", x.lies(0, 2), 1);
         x.hold(0, 0, 0, 0, 0);
         due("root of 0", x.holds(0, 1, 6), 0);
         due("taut without length", x.holds(0, 1, 8), 1);
@@ -166,6 +197,9 @@ public final class HoldsTest {
         due("run to its beginning", x.hold(0, 10, 0, 0, 80), 2);
         due("far 30 and 50", x.holds(0, 2, 6), 81920);
         due("taut", x.holds(0, 2, 8), 1);
+        x.bend(0, 0, 16);
+        x.cross(0, 10, 40, 0);
+        due("far to the pin, and 50 to the end", x.holds(0, 2, 6), 42221 + 51200);
     }
 
     private static void plucked() {
@@ -274,5 +308,10 @@ public final class HoldsTest {
         due("the least of several", x.why(0), 2);
         x.hold(0, 40, 0, 40, 0);
         due("the ground", x.why(0), 4);
+        x.drop(0, 0);
+        due("one number ahead", x.why(0), 3);
+        x.drop(0, 3);
+        x.drop(0, 0);
+        due("the first", x.why(0), 0);
     }
 }

@@ -8,6 +8,7 @@ public final class InTheWayTest {
         tangleTouching();
         tangleLeast();
         meet();
+        meetSlanting();
         meetInOneLine();
         meetLeast();
         mirrorRefused();
@@ -17,6 +18,7 @@ public final class InTheWayTest {
         undoEach();
         undoLatestFive();
         undoTicks();
+        undoLimbs();
         count();
         Due.finish();
     }
@@ -80,6 +82,29 @@ public final class InTheWayTest {
         y.hold(0, 2, 0, 20, 0);
         y.hold(0, 3, 0, 10, 0);
         due("an end on the other line", y.tangle(0), NONE);
+        PuppetStage u = table();
+        u.bar(0, 4, 0, -100);
+        u.hold(0, 4, 0, 20, 0);
+        u.hold(0, 3, 0, 10, 0);
+        due("an end inside of the other line", u.tangle(0), NONE);
+        u.drop(0, 0);
+        u.hold(0, 4, 0, 20, 0);
+        due("the other line to that end", u.tangle(0), NONE);
+        PuppetStage v = table();
+        v.bar(0, 4, 0, -90);
+        v.bar(0, 5, 10, -80);
+        v.hold(0, 4, 0, 20, 0);
+        v.hold(0, 5, 0, 20, 0);
+        v.hold(0, 3, 0, 20, 0);
+        due("to one end, from both sides", v.tangle(0), NONE);
+        PuppetStage t = table();
+        t.bar(0, 4, 10, -92);
+        t.hold(0, 0, 0, 20, 0);
+        t.hold(0, 4, 0, 10, 0);
+        due("its line goes on through the other, not it", t.tangle(0), NONE);
+        t.drop(0, 0);
+        t.hold(0, 0, 0, 20, 0);
+        due("the other way about", t.tangle(0), NONE);
         PuppetStage z = table();
         z.bar(0, 4, 10, -90);
         z.hold(0, 3, 0, 10, 0);
@@ -131,6 +156,31 @@ public final class InTheWayTest {
         due("just above", x.meet(), NONE);
         x.limb(0, 0, 20, 1);
         due("limbs of one puppet do not count", x.meet(), NONE);
+    }
+
+    /** One upright limb and one that slants down to the right, of either puppet. */
+    private static void meetSlanting() {
+        for (int slanting = 0; slanting < 2; slanting++) {
+            int upright = 1 - slanting;
+            PuppetStage x = new PuppetStage();
+            x.limb(0, -1, 20, 1);
+            x.limb(1, -1, 20, 1);
+            x.pin(upright, 1, 10);
+            x.bend(slanting, 0, 8);
+            x.pin(slanting, -10, 5);
+            due("through it", x.meet(), 0);
+            x.pin(slanting, -10, 0);
+            due("past its lower end", x.meet(), NONE);
+            x.pin(slanting, -10, 22);
+            due("past its upper end", x.meet(), NONE);
+            x.pin(slanting, -10, 21);
+            due("on its upper end", x.meet(), 0);
+            x.bend(upright, 0, 2);
+            x.pin(slanting, -10, 8);
+            due("ends just ahead of it", x.meet(), NONE);
+            x.pin(slanting, -9, 8);
+            due("ends just behind it", x.meet(), 0);
+        }
     }
 
     private static void meetInOneLine() {
@@ -188,6 +238,9 @@ public final class InTheWayTest {
         due("turned", x.about(0, 4), 31);
         x.limb(0, -1, 5, 5);
         x.limb(0, -1, 5, 5);
+        x.bend(0, 0, -32);
+        due("bend of the first", x.mirror(0), NO);
+        x.bend(0, 0, 0);
         x.bend(0, 1, -32);
         due("bend", x.mirror(0), NO);
         x.lose(0);
@@ -322,6 +375,7 @@ public final class InTheWayTest {
         due("least", x.told(0, 1, 5), 0);
         due("greatest", x.told(0, 1, 6), 0);
         due("mirror back", x.mirror(0), 0);
+        due("hand", x.about(0, 5), 0);
         due("least", x.told(0, 0, 5), -3);
         due("greatest", x.told(0, 0, 6), 31);
     }
@@ -423,6 +477,38 @@ public final class InTheWayTest {
         due("undo", x.undo(), 0);
         due("ticks", x.about(0, 6), 1);
         due("the other's ticks", x.about(1, 6), 0);
+        PuppetStage y = new PuppetStage();
+        y.limb(0, -1, 20, 1);
+        y.bend(0, 0, 9);
+        y.tick(0, 7, 8, 9);
+        y.play(0, 1);
+        y.pin(0, 1, 1);
+        y.calm(0);
+        y.tick(0, 17, 18, 19);
+        y.play(0, 1);
+        due("undo the second play", y.undo(), 4);
+        due("undo the pin", y.undo(), 3);
+        due("the pose is back", y.pose(0, 0, 0), 8);
+        due("play", y.play(0, 1), 1);
+        due("the tick's x is back", y.about(0, 2), 7);
+        due("its y", y.about(0, 3), 8);
+        due("its tilt", y.about(0, 4), 9);
+    }
+
+    /** What a limb was is back after another one stood in its place. */
+    private static void undoLimbs() {
+        PuppetStage x = new PuppetStage();
+        x.limb(0, -1, 20, 1);
+        x.limb(0, 0, 21, 2);
+        x.bend(0, 1, 5);
+        x.lose(0);
+        x.limb(0, -1, 30, 3);
+        due("undo limb", x.undo(), 4);
+        due("undo lose", x.undo(), 3);
+        due("length", x.told(0, 1, 0), 21);
+        due("weight", x.told(0, 1, 1), 2);
+        due("parent", x.told(0, 1, 2), 0);
+        due("bend", x.told(0, 1, 3), 5);
     }
 
     private static void count() {

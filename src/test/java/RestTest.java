@@ -6,6 +6,7 @@ public final class RestTest {
         wrongInputs();
         firstChange();
         pairChange();
+        pairWithinSpans();
         spansBound();
         noWrap();
         excessAheadOfDepth();
@@ -102,6 +103,20 @@ public final class RestTest {
 
     /** Limbs in a chain (length, weight), holds (kindAndBar, limb, spot, length): one rest with either hand. */
     private static void twoStep(int[][] limbs, int pinY, int[][] holds, int[] bends, int[] stepsUp, int[] stepsDown) {
+        PuppetStage x = chain(limbs, pinY, holds, bends);
+        for (int hand = 0; hand < 2; hand++) {
+            x.hand(0, hand);
+            due("a change of two", x.isStill(0), 0);
+            due("rest", x.rest(0, 1), 1);
+            int[] steps = hand == 0 ? stepsUp : stepsDown;
+            for (int k = 0; k < bends.length; k++) {
+                due("hand " + hand + ", bend " + k, x.told(0, k, 3), bends[k] + steps[k]);
+            }
+            x.undo();
+        }
+    }
+
+    private static PuppetStage chain(int[][] limbs, int pinY, int[][] holds, int[] bends) {
         PuppetStage x = new PuppetStage();
         for (int k = 0; k < limbs.length; k++) {
             x.limb(0, k - 1, limbs[k][0], limbs[k][1]);
@@ -113,15 +128,29 @@ public final class RestTest {
         for (int k = 0; k < bends.length; k++) {
             x.bend(0, k, bends[k]);
         }
-        for (int hand = 0; hand < 2; hand++) {
-            x.hand(0, hand);
-            due("a change of two", x.isStill(0), 0);
+        return x;
+    }
+
+    /** Only both up and both down are better here; the span of either limb may shut out either. */
+    private static void pairWithinSpans() {
+        for (int limb = 0; limb < 2; limb++) {
+            PuppetStage x = chain(new int[][] {{20, 1}, {5, 0}, {10, 2}}, 10, new int[][] {{0, 1, 5, 70}}, new int[] {-28, -16, -20});
+            int bend = limb == 0 ? -28 : -16;
+            x.spans(0, 2);
+            due("not up", x.span(0, limb, -32, bend), 0);
             due("rest", x.rest(0, 1), 1);
-            int[] steps = hand == 0 ? stepsUp : stepsDown;
-            for (int k = 0; k < bends.length; k++) {
-                due("hand " + hand + ", bend " + k, x.told(0, k, 3), bends[k] + steps[k]);
-            }
+            due("limb 0 down", x.told(0, 0, 3), -29);
+            due("limb 1 down", x.told(0, 1, 3), -17);
             x.undo();
+            due("not down", x.span(0, limb, bend, 31), 0);
+            x.hand(0, 1);
+            due("rest", x.rest(0, 1), 1);
+            due("limb 0 up", x.told(0, 0, 3), -27);
+            due("limb 1 up", x.told(0, 1, 3), -15);
+            x.undo();
+            due("neither", x.span(0, limb, bend, bend), 0);
+            due("still", x.isStill(0), 1);
+            due("rest", x.rest(0, 9), 0);
         }
     }
 
@@ -240,5 +269,13 @@ public final class RestTest {
         due("lowest", x.lowest(0), 2);
         due("bend 0", x.told(0, 0, 3), 3);
         due("bend 1", x.told(0, 1, 3), -4);
+        x.spans(0, 2);
+        x.bend(0, 0, -10);
+        x.bend(0, 1, 10);
+        x.span(0, 0, -32, -3);
+        x.span(0, 1, 4, 31);
+        due("lowest", x.lowest(0), 2);
+        due("bend 0", x.told(0, 0, 3), -3);
+        due("bend 1", x.told(0, 1, 3), 4);
     }
 }

@@ -24,6 +24,7 @@ public final class FaceTest {
         methods();
         otherMembers();
         words();
+        fullRows();
         anyNumbers();
         Due.finish();
     }
@@ -90,6 +91,40 @@ public final class FaceTest {
             Due.isTrue("no " + word, !found);
         }
         Due.isTrue("signs of 1 to 127 alone", code.chars().allMatch(c -> c > 0 && c < 128));
+    }
+
+    /** Both puppets have as much of all as they may: the last of every row is in use. */
+    private static void fullRows() {
+        PuppetStage x = new PuppetStage();
+        for (int puppet = 0; puppet < 2; puppet++) {
+            x.spans(puppet, 6);
+            for (int k = 0; k < 6; k++) {
+                Due.due("limb", x.limb(puppet, k - 1, 100, 50), k);
+                x.span(puppet, k, -31, 31);
+                x.bar(puppet, k, 100 - 30 * k, k);
+            }
+            for (int k = 0; k < 12; k++) {
+                Due.due("hold", x.hold(puppet, 10 * (k % 4) + k % 6, k % 6, 100, 20 * k), k);
+                Due.due("tick", x.tick(puppet, 10 * k, 300, k), k + 1);
+            }
+            x.pin(puppet, 300 * puppet, -300);
+            Due.isTrue("play", x.play(puppet, 100) > 0);
+            Due.due("poses", x.about(puppet, 7), 12);
+            Due.isTrue("the last pose", x.pose(puppet, 11, 5) == x.told(puppet, 5, 3));
+            Due.due("round", x.round(puppet), 0);
+            Due.isTrue("rest", x.rest(puppet, 300) >= 0);
+            Due.isTrue("reach", x.reach(puppet, 5, 0, 300) >= 0);
+            x.tangle(puppet);
+            Due.isTrue("why", x.why(puppet) >= -9000000000000000005L);
+            Due.due("mirror", x.mirror(puppet), 0);
+            Due.due("taut and slack", x.holds(puppet, 11, 0), 3);
+        }
+        x.meet();
+        Due.due("drop the first", x.drop(1, 0), 0);
+        Due.due("the last has come ahead", x.holds(1, 10, 4), 220);
+        Due.due("lose", x.lose(1), 100);
+        Due.due("holds", x.about(1, 1), 9);
+        Due.due("limbs", x.count(0), 11);
     }
 
     /** Whatever numbers come, in whatever order, nothing is thrown. */

@@ -200,6 +200,8 @@ public final class HoldsTest {
         x.bend(0, 0, 16);
         x.cross(0, 10, 40, 0);
         due("far to the pin, and 50 to the end", x.holds(0, 2, 6), 42221 + 51200);
+        x.pin(0, 0, 70);
+        due("far to the pin above, and to the end", x.holds(0, 2, 6), 32382 + 43445);
     }
 
     private static void plucked() {

@@ -7,6 +7,7 @@ public final class EdgesInTheWayTest {
         tangleOfFew();
         tangleOfTheLast();
         tangleNeedsBothSides();
+        tangleOfEveryLimb();
         meetOfNone();
         meetOfTheLast();
         meetAtOnePlace();
@@ -121,6 +122,29 @@ public final class EdgesInTheWayTest {
         x.hold(0, 4, 0, 0, 0);
         x.hold(0, 2, 0, 10, 0);
         return x.tangle(0);
+    }
+
+    /** Six limbs hang one from the other; a string to the end of the last goes through those to ends above it. */
+    private static void tangleOfEveryLimb() {
+        PuppetStage x = new PuppetStage();
+        x.pin(0, 0, 90);
+        for (int k = 0; k < 6; k++) {
+            x.limb(0, k - 1, 10, 1);
+        }
+        x.bar(0, 0, -20, -50);
+        x.bar(0, 5, -10, 0);
+        x.hold(0, 5, 5, 10, 0);
+        x.hold(0, 0, 0, 10, 0);
+        due("to limb 0, through it", x.tangle(0), 1);
+        x.drop(0, 1);
+        x.hold(0, 0, 4, 10, 0);
+        due("to limb 4, through it", x.tangle(0), 1);
+        x.drop(0, 1);
+        x.hold(0, 0, 5, 10, 0);
+        due("to limb 5, to its end", x.tangle(0), NONE);
+        x.drop(0, 0);
+        x.hold(0, 5, 0, 0, 0);
+        due("to limb 0, above it", x.tangle(0), NONE);
     }
 
     /** Promise 32: 'NONE': without limbs of one, the other, or both. */
@@ -263,13 +287,24 @@ public final class EdgesInTheWayTest {
             x.spans(0, 1);
             x.span(0, 0, -31, 31);
         }, x -> x.mirror(0), 0);
+        PuppetStage six = new PuppetStage();
+        six.spans(0, 6);
+        for (int k = 0; k < 6; k++) {
+            six.span(0, k, -k, 2 * k);
+        }
+        due("six pairs", six.mirror(0), 0);
+        due("they stay", six.about(0, 8), 6);
+        for (int k = 0; k < 6; k++) {
+            six.limb(0, -1, 5, 5);
+            due("least " + k, six.told(0, k, 5), -2 * k);
+            due("greatest " + k, six.told(0, k, 6), k);
+        }
         int[][] turned = {{-31, 31}, {-31, -31}, {31, 31}, {-5, 9}, {0, 0}};
         for (int[] t : turned) {
             PuppetStage x = new PuppetStage();
             x.spans(0, 1);
             x.span(0, 0, t[0], t[1]);
             due("mirror", x.mirror(0), 0);
-            x.spans(1, 0);
             if (t[0] <= 0 && t[1] >= 0) {
                 x.limb(0, -1, 5, 5);
                 due("least", x.told(0, 0, 5), -t[1]);
@@ -329,6 +364,12 @@ public final class EdgesInTheWayTest {
             x.undo();
             due("no poses any more", x.mirror(0), 0);
         }
+        Edge.taken("a limb that was lost ahead of the play", x -> {
+            limbs(5, -32).set(x);
+            x.lose(0);
+            x.tick(0, 0, 100, 0);
+            x.play(0, 1);
+        }, x -> x.mirror(0), 0);
         PuppetStage y = Tell.made(limbs(5, -31));
         y.tick(0, 0, 100, 0);
         y.tick(0, 0, 100, 0);

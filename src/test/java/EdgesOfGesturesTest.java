@@ -31,6 +31,7 @@ public final class EdgesOfGesturesTest {
         reachWithinTilts();
         reachSixtyTimes();
         reachLeastTilt();
+        reachBendsAll();
         Due.finish();
     }
 
@@ -349,5 +350,27 @@ public final class EdgesOfGesturesTest {
         due("the least", y.about(0, 4), -32);
         due("x stays", y.about(0, 2), 5);
         due("y stays", y.about(0, 3), 6);
+    }
+
+    /** 'CROSS and BENDS become those': of the first limb and of the sixth, each of which goes with the bar. */
+    private static void reachBendsAll() {
+        PuppetStage x = new PuppetStage();
+        x.cross(0, 0, 0, 0);
+        x.bar(0, 0, 20, 0);
+        for (int k = 0; k < 6; k++) {
+            x.limb(0, -1, 20, 0);
+            x.bend(0, k, 16);
+            x.hold(0, 0, k, 20, 0);
+        }
+        due("to the tilt's own place", x.reach(0, 5, 20, 0), 0);
+        due("tilt", x.about(0, 4), 0);
+        due("reach", x.reach(0, 5, 0, 300), square(20 * 946, 20 * 392 - 307200));
+        for (int k = 0; k < 6; k++) {
+            due("bend " + k, x.told(0, k, 3), 20);
+        }
+        due("back", x.reach(0, 0, 20, 0), 0);
+        for (int k = 0; k < 6; k++) {
+            due("bend " + k, x.told(0, k, 3), 16);
+        }
     }
 }

@@ -15,6 +15,7 @@ public final class EdgesOfHoldsTest {
         pluckRefusalsInOrder();
         holdsNumbers();
         takenIsZero();
+        farOfEveryBarAndLimb();
         isOfNumbers();
         liesNumbers();
         liesOfHoldsThatJustFit();
@@ -189,6 +190,31 @@ public final class EdgesOfHoldsTest {
         x.hold(0, 20, 0, 30, 60);
         due("taken of a new one", x.holds(0, 2, 5), 0);
         due("what it was", x.pluck(0, 2, 1), 0);
+    }
+
+    /** '6 FAR': from the first bar and limb to the last, of a string and of a run, by places that at() and barAt() tell. */
+    private static void farOfEveryBarAndLimb() {
+        for (int bar = 0; bar < 6; bar++) {
+            PuppetStage x = new PuppetStage();
+            for (int k = 0; k < 6; k++) {
+                x.limb(0, k - 1, 10 + k, 1);
+                x.bend(0, k, 3 * k + 1);
+                x.bar(0, k, 15 * k - 40, 7 * k);
+            }
+            for (int limb = 0; limb < 6; limb++) {
+                x.hold(0, bar, limb, limb, 9);
+                x.hold(0, 10 + bar, limb, limb, 9);
+                long spot = between(x, bar, limb, limb);
+                due("string of bar " + bar + ", limb " + limb, x.holds(0, 2 * limb, 6), spot);
+                due("run of bar " + bar + ", limb " + limb, x.holds(0, 2 * limb + 1, 6), spot + between(x, bar, 0, 10));
+            }
+        }
+    }
+
+    private static long between(PuppetStage x, int bar, int limb, int spot) {
+        long dx = x.at(0, limb, spot, 0) - x.barAt(0, bar, 0);
+        long dy = x.at(0, limb, spot, 1) - x.barAt(0, bar, 1);
+        return PlainStage.root(dx * dx + dy * dy);
     }
 
     /** Promise 19: kinds 0 .. 4. */

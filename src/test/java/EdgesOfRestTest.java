@@ -20,6 +20,8 @@ public final class EdgesOfRestTest {
         restStopsAtTheLeastBend();
         restStopsAtItsSpan();
         restOfTwoStopsAtTheEnds();
+        restGoesByOneStep();
+        restLooksAtEveryHold();
         stillNumbers();
         stillOnlyWhereNoChangeIsBetter();
         stillChangesNothing();
@@ -155,6 +157,50 @@ public final class EdgesOfRestTest {
             x.span(0, limb, bend, bend);
             due("none", x.isStill(0), 1);
             due("rest", x.rest(0, 1), 0);
+        }
+    }
+
+    /**
+     * 'of one LIMB .. by one step', 'of two LIMBS i below j': a limb is not changed twice at once. The string goes
+     * from the pin to the limb's end, so that only the roundness of SIN says how long it is; with a bend of 4 it is
+     * shorter than with 3 and 5, and longer than with 2 and 6.
+     */
+    private static void restGoesByOneStep() {
+        PuppetStage x = new PuppetStage();
+        x.limb(0, -1, 100, 0);
+        x.cross(0, 0, 0, 0);
+        x.hold(0, 0, 0, 100, 0);
+        long[] far = {102373, 102402, 102401, 102406, 102371};
+        for (int k = 0; k < 5; k++) {
+            x.bend(0, 0, 2 + k);
+            due("far with " + (2 + k), x.holds(0, 0, 6), far[k]);
+        }
+        x.bend(0, 0, 4);
+        due("still", x.isStill(0), 1);
+        due("rest", x.rest(0, 5), 0);
+        x.bend(0, 0, 3);
+        due("rest", x.rest(0, 5), 1);
+        due("up first", x.told(0, 0, 3), 4);
+        x.bend(0, 0, 3);
+        x.hand(0, 1);
+        due("rest", x.rest(0, 5), 1);
+        due("down first", x.told(0, 0, 3), 2);
+    }
+
+    /** 'by how much all its HOLDS are too long': one limb, and of twelve holds only the first, or only the last, pulls it. */
+    private static void restLooksAtEveryHold() {
+        for (int pulling = 0; pulling < 12; pulling += 11) {
+            PuppetStage x = new PuppetStage();
+            x.limb(0, -1, 10, 1);
+            x.cross(0, 10, 0, 0);
+            for (int h = 0; h < 12; h++) {
+                x.hold(0, 0, 0, 10, h == pulling ? 0 : 500);
+            }
+            due("rest with hold " + pulling, x.rest(0, 300), 16);
+            due("bend", x.told(0, 0, 3), 16);
+            x.bend(0, 0, 0);
+            due("lowest with hold " + pulling, x.lowest(0), 1);
+            due("bend", x.told(0, 0, 3), 16);
         }
     }
 
@@ -305,5 +351,8 @@ public final class EdgesOfRestTest {
         due("limb 0", x.told(0, 0, 3), -1);
         due("limb 1", x.told(0, 1, 3), 1);
         due("it is no rest", x.count(3), 0);
+        x.lose(0);
+        x.bend(0, 0, 0);
+        due("the bend of a limb that is lost is none", x.lowest(0), 0);
     }
 }

@@ -24,6 +24,7 @@ public final class FaceTest {
         methods();
         otherMembers();
         words();
+        onlyConstructorsMake();
         fullRows();
         anyNumbers();
         Due.finish();
@@ -84,13 +85,30 @@ public final class FaceTest {
         }
     }
 
+    private static String codeWithoutComments() throws IOException {
+        return Files.readString(Path.of(SOURCE)).replaceAll("(?s)/\\*.*?\\*/", " ").replaceAll("//[^\n]*", " ");
+    }
+
     private static void words() throws IOException {
-        String code = Files.readString(Path.of(SOURCE)).replaceAll("(?s)/\\*.*?\\*/", " ").replaceAll("//[^\n]*", " ");
+        String code = codeWithoutComments();
         for (String word : FORBIDDEN) {
             boolean found = Character.isLetter(word.charAt(0)) ? code.matches("(?s).*\\b" + word + "\\b.*") : code.contains(word);
             Due.isTrue("no " + word, !found);
         }
         Due.isTrue("signs of 1 to 127 alone", code.chars().allMatch(c -> c > 0 && c < 128));
+    }
+
+    /** All calls of a run live in one room, so what is made is made with the stage: by final fields, and for the kept changes. */
+    private static void onlyConstructorsMake() throws IOException {
+        int made = 0;
+        for (String line : codeWithoutComments().split("\n")) {
+            if (line.matches(".*\\b(new|clone|copyOf|copyOfRange|ArrayList|StringBuilder|String)\\b.*")) {
+                made++;
+                Due.isTrue("a call makes nothing: " + line, line.matches(" +(private )?final \\S+ \\w+ = new \\w+(\\(\\)|\\[[^\\]]+\\]);")
+                        || line.matches(" +(firsts|seconds)\\[k\\] = new Puppet\\(\\);"));
+            }
+        }
+        Due.isTrue("what is made was found", made > 0);
     }
 
     /** Both puppets have as much of all as they may: the last of every row is in use. */
